@@ -1,8 +1,8 @@
 /** Each promise by itself: ordinary inputs, the edges that the document names, wrong inputs. */
 public final class PromiseTest {
     private static final Checks CHECKS = new Checks();
-    private static final int LOW = Integer.MIN_VALUE;
-    private static final int HIGH = Integer.MAX_VALUE;
+    private static final int LOW = Checks.LOW;
+    private static final int HIGH = Checks.HIGH;
 
     public static void main(String[] args) {
         newObject();
@@ -30,31 +30,6 @@ public final class PromiseTest {
         corrected();
         count();
         CHECKS.end();
-    }
-
-    private static SpectrumParts spectrum(int... counts) {
-        SpectrumParts x = new SpectrumParts(counts.length);
-        tell(x, counts);
-        return x;
-    }
-
-    private static void tell(SpectrumParts x, int... counts) {
-        for (int i = 0; i < counts.length; i++) {
-            x.told(i, counts[i]);
-        }
-    }
-
-    private static void addLibrary(SpectrumParts x, int... entries) {
-        int library = x.library();
-        for (int i = 0; i < entries.length; i++) {
-            x.entry(library, i, entries[i]);
-        }
-    }
-
-    private static void addSample(SpectrumParts x, int first, int second) {
-        int sample = x.sample();
-        x.measured(sample, 0, first);
-        x.measured(sample, 1, second);
     }
 
     private static void duePeak(SpectrumParts x, int k, int... rows) {
@@ -108,7 +83,7 @@ public final class PromiseTest {
     }
 
     private static void background() {
-        SpectrumParts x = spectrum(10, 3, 20, 8, 31);
+        SpectrumParts x = Make.spectrum(10, 3, 20, 8, 31);
         CHECKS.due("background(0)", 72, () -> x.background(0));
         // round 1 by the former row: 10, 3, min(20, 5), 8, 31
         CHECKS.due("background(1)", 57, () -> x.background(1));
@@ -119,7 +94,7 @@ public final class PromiseTest {
         CHECKS.refuses("background(-1)", Checks.ARGUMENT, () -> x.background(-1));
         CHECKS.refuses("background(13)", Checks.ARGUMENT, () -> x.background(13));
         CHECKS.due("what was refused changed nothing", 5, () -> x.lowered(2));
-        tell(x, 0, 100, 100, 100, 0);
+        Make.tell(x, 0, 100, 100, 100, 0);
         CHECKS.due("it stays until it is lowered again", 5, () -> x.lowered(2));
         // all by the row ahead of the round: 0, 50, 100, 50, 0; then channel 2 gets the mean of 0 and 0
         CHECKS.due("round 1 by the row ahead of it", 200, () -> x.background(1));
@@ -132,7 +107,7 @@ public final class PromiseTest {
     }
 
     private static void lowered() {
-        SpectrumParts x = spectrum(9, 8, 9, 1);
+        SpectrumParts x = Make.spectrum(9, 8, 9, 1);
         CHECKS.due("at first", 0, () -> x.lowered(0));
         x.background(1);
         int[] ground = {9, 8, 4, 1};
@@ -146,7 +121,7 @@ public final class PromiseTest {
     }
 
     private static void peaks() {
-        SpectrumParts x = spectrum(7, 3, 3, 9, 9, 9, 2, 4);
+        SpectrumParts x = Make.spectrum(7, 3, 3, 9, 9, 9, 2, 4);
         CHECKS.due("both ends and a flat top", 3, () -> x.peaks(0));
         CHECKS.due("the flat top's channel", 3, () -> x.peak(1, 0));
         CHECKS.due("peaks(4)", 2, () -> x.peaks(4));
@@ -155,8 +130,8 @@ public final class PromiseTest {
         CHECKS.due("what was refused changed nothing", 1, () -> x.count(1));
         CHECKS.due("peaks(9)", 0, () -> x.peaks(9));
         CHECKS.due("peaks(HIGH)", 0, () -> x.peaks(HIGH));
-        CHECKS.due("peaks(0) of a row without a drop", 1, () -> spectrum(5, 5, 5, 5).peaks(0));
-        CHECKS.due("peaks(0) of nothing", 0, () -> spectrum(0, 0, 0, 0).peaks(0));
+        CHECKS.due("peaks(0) of a row without a drop", 1, () -> Make.spectrum(5, 5, 5, 5).peaks(0));
+        CHECKS.due("peaks(0) of nothing", 0, () -> Make.spectrum(0, 0, 0, 0).peaks(0));
         SpectrumParts most = new SpectrumParts(24);
         for (int i = 0; i < 24; i += 2) {
             most.told(i, 500);
@@ -166,7 +141,7 @@ public final class PromiseTest {
     }
 
     private static void peak() {
-        SpectrumParts x = spectrum(4, 0, 2, 2, 5, 9, 9, 9, 1, 1, 3, 0);
+        SpectrumParts x = Make.spectrum(4, 0, 2, 2, 5, 9, 9, 9, 1, 1, 3, 0);
         CHECKS.refuses("before peaks()", Checks.INDEX, () -> x.peak(0, 0));
         x.peaks(0);
         duePeak(x, 0, 0, 4, 4, 0, 0);
@@ -178,12 +153,12 @@ public final class PromiseTest {
         CHECKS.refuses("peak(-1, 0)", Checks.INDEX, () -> x.peak(-1, 0));
         CHECKS.refuses("peak(0, 5)", Checks.INDEX, () -> x.peak(0, 5));
         CHECKS.refuses("peak(0, -1)", Checks.INDEX, () -> x.peak(0, -1));
-        tell(x, 0, 0, 0, 0, 0, 0, 0, 0, 0, 0, 0, 0);
+        Make.tell(x, 0, 0, 0, 0, 0, 0, 0, 0, 0, 0, 0, 0);
         x.background(0);
         duePeak(x, 2, 5, 9, 36, 3, 9);
         x.peaks(0);
         CHECKS.refuses("gone when they are looked for again", Checks.INDEX, () -> x.peak(0, 0));
-        SpectrumParts net = spectrum(10, 30, 10, 6);
+        SpectrumParts net = Make.spectrum(10, 30, 10, 6);
         net.background(1);
         net.told(3, 0);
         // the background is 10, 10, 10, 6: the last channel's net is 0, not -6
@@ -235,7 +210,7 @@ public final class PromiseTest {
     }
 
     private static void detect() {
-        SpectrumParts x = spectrum(1, 2, 4, 8, 16, 32, 64, 128);
+        SpectrumParts x = Make.spectrum(1, 2, 4, 8, 16, 32, 64, 128);
         x.line(0, 0);
         CHECKS.due("before the background", 0, () -> x.detect(0));
         x.background(0);
@@ -248,7 +223,7 @@ public final class PromiseTest {
         x.line(7, 3);
         x.line(7, 3);
         CHECKS.due("a line twice, channels 2 to 4: root of 252", 15, () -> x.detect(7));
-        tell(x, 1, 1, 2, 0, 0, 0, 0, 0);
+        Make.tell(x, 1, 1, 2, 0, 0, 0, 0, 0);
         x.background(0);
         x.line(1, 1);
         CHECKS.due("the root of a square", 6, () -> x.detect(1));
@@ -298,7 +273,7 @@ public final class PromiseTest {
     }
 
     private static void parts() {
-        SpectrumParts x = spectrum(6, 0, 0, 0);
+        SpectrumParts x = Make.spectrum(6, 0, 0, 0);
         CHECKS.due("no library", 0, x::parts);
         x.library();
         CHECKS.due("a library that is all 0", 0, x::parts);
@@ -307,11 +282,11 @@ public final class PromiseTest {
         x.entry(0, 0, 4);
         CHECKS.due("24 / 41 of it", 1, x::parts);
         dueShare(x, 0, 24, 41);
-        addLibrary(x, 3, 0, 0, 0);
+        Make.addLibrary(x, 3, 0, 0, 0);
         CHECKS.due("the other one fits better, alone", 2, x::parts);
         dueShare(x, 0, 0, 1);
         dueShare(x, 1, 2, 1);
-        addLibrary(x, 2, 0, 0, 0);
+        Make.addLibrary(x, 2, 0, 0, 0);
         CHECKS.due("of equally many the lesser number", 2, x::parts);
         x.background(0);
         CHECKS.due("without any net", 0, x::parts);
@@ -319,10 +294,10 @@ public final class PromiseTest {
     }
 
     private static void partsOfSets() {
-        SpectrumParts x = spectrum(2, 3, 5, 0);
-        addLibrary(x, 1, 0, 0, 0);
-        addLibrary(x, 0, 1, 0, 0);
-        addLibrary(x, 0, 0, 1, 0);
+        SpectrumParts x = Make.spectrum(2, 3, 5, 0);
+        Make.addLibrary(x, 1, 0, 0, 0);
+        Make.addLibrary(x, 0, 1, 0, 0);
+        Make.addLibrary(x, 0, 0, 1, 0);
         CHECKS.due("all three", 7, x::parts);
         dueShare(x, 2, 5, 1);
         x.told(0, 0);
@@ -347,9 +322,9 @@ public final class PromiseTest {
         dueShare(x, 0, 3, 1);
         dueShare(x, 1, 4, 1);
         dueShare(x, 2, 0, 1);
-        SpectrumParts y = spectrum(9, 0, 1, 0);
-        addLibrary(y, 1, 1, 0, 0);
-        addLibrary(y, 0, 2, 1, 0);
+        SpectrumParts y = Make.spectrum(9, 0, 1, 0);
+        Make.addLibrary(y, 1, 1, 0, 0);
+        Make.addLibrary(y, 0, 2, 1, 0);
         // both alone would have shares below 0 for library 1
         CHECKS.due("none below 0", 1, y::parts);
         dueShare(y, 0, 9, 2);
@@ -374,7 +349,7 @@ public final class PromiseTest {
     }
 
     private static void share() {
-        SpectrumParts x = spectrum(5, 5, 1, 0);
+        SpectrumParts x = Make.spectrum(5, 5, 1, 0);
         CHECKS.refuses("no library, no parts(): the index first", Checks.INDEX, () -> x.share(0, 0));
         x.library();
         CHECKS.refuses("no parts()", Checks.STATE, () -> x.share(0, 0));
@@ -413,9 +388,9 @@ public final class PromiseTest {
     }
 
     private static void least() {
-        SpectrumParts x = spectrum(4, 4, 0, 6);
+        SpectrumParts x = Make.spectrum(4, 4, 0, 6);
         CHECKS.refuses("no parts()", Checks.STATE, () -> x.least() ? 1 : 0);
-        addLibrary(x, 2, 2, 0, 0);
+        Make.addLibrary(x, 2, 2, 0, 0);
         CHECKS.refuses("still no parts()", Checks.STATE, () -> x.least() ? 1 : 0);
         x.parts();
         dueLeast(x, "as solved", true);
@@ -474,25 +449,20 @@ public final class PromiseTest {
         CHECKS.due("what was refused changed nothing", 1000, () -> x.measured(0, 1, 0));
     }
 
-    private static long setCovariance(SpectrumParts x, int a, int b, int c) {
-        x.covariance(a, b, c);
-        return 0;
-    }
-
     private static void covariance() {
         SpectrumParts x = new SpectrumParts(4);
-        addSample(x, 1, 0);
-        addSample(x, 0, 0);
+        Make.addSample(x, 1, 0);
+        Make.addSample(x, 0, 0);
         dueDistance(x, 0, 1, 1, 1);
         int[][] taken = {{1, 0, 1}, {1000, 999, 1000}, {1000, -999, 1000}, {1, 0, 1000}, {1000, 31, 1}, {2, 1, 1}, {5, 1, 7}};
         for (int[] t : taken) {
-            CHECKS.due("covariance of " + t[0] + ", " + t[1] + ", " + t[2], 0, () -> setCovariance(x, t[0], t[1], t[2]));
+            CHECKS.due("covariance of " + t[0] + ", " + t[1] + ", " + t[2], 0, () -> Make.covariance(x, t[0], t[1], t[2]));
         }
         int[][] refused = {{0, 0, 1}, {1, 0, 0}, {1001, 0, 1}, {1, 0, 1001}, {1000, 1001, 1000}, {1000, -1001, 1000},
             {1000, 1000, 1000}, {1000, -1000, 1000}, {1, 1, 1}, {4, 2, 1}, {2, 2, 1}, {-2, 1, -2}, {HIGH, 0, HIGH}, {LOW, 0, LOW},
             {1, 65536, 1}, {1, LOW, 1}};
         for (int[] r : refused) {
-            CHECKS.refuses("covariance of " + r[0] + ", " + r[1] + ", " + r[2], Checks.ARGUMENT, () -> setCovariance(x, r[0], r[1], r[2]));
+            CHECKS.refuses("covariance of " + r[0] + ", " + r[1] + ", " + r[2], Checks.ARGUMENT, () -> Make.covariance(x, r[0], r[1], r[2]));
         }
         // what was refused changed nothing: 7 / 34
         dueDistance(x, 0, 1, 7, 34);
@@ -500,10 +470,10 @@ public final class PromiseTest {
 
     private static void distance() {
         SpectrumParts x = new SpectrumParts(4);
-        addSample(x, 3, 4);
-        addSample(x, -1, 2);
-        addSample(x, 1000, -1000);
-        addSample(x, -1000, 1000);
+        Make.addSample(x, 3, 4);
+        Make.addSample(x, -1, 2);
+        Make.addSample(x, 1000, -1000);
+        Make.addSample(x, -1000, 1000);
         dueDistance(x, 0, 1, 20, 1);
         dueDistance(x, 1, 0, 20, 1);
         dueDistance(x, 2, 2, 0, 1);
@@ -537,7 +507,7 @@ public final class PromiseTest {
         CHECKS.refuses("no sample yet", Checks.INDEX, () -> x.group(0, 1));
         int[] places = {90, 0, 40, 10, 30, 20, 71, 60, 90};
         for (int place : places) {
-            addSample(x, place, 0);
+            Make.addSample(x, place, 0);
         }
         // 0 to 40 is a chain of steps of 10; 60 and 71 are 11 apart; 90 twice
         dueGroup(x, 2, 100, 1);
@@ -561,8 +531,8 @@ public final class PromiseTest {
         CHECKS.refuses("sample -1", Checks.INDEX, () -> x.group(-1, 0));
         CHECKS.refuses("all wrong: the index first", Checks.INDEX, () -> x.group(9, -1));
         SpectrumParts far = new SpectrumParts(4);
-        addSample(far, 1000, -1000);
-        addSample(far, -1000, 1000);
+        Make.addSample(far, 1000, -1000);
+        Make.addSample(far, -1000, 1000);
         far.covariance(1000, 0, 1000);
         dueGroup(far, 1, 7999, 1);
         dueGroup(far, 1, 8000, 0);
@@ -625,7 +595,7 @@ public final class PromiseTest {
     }
 
     private static void count() {
-        SpectrumParts x = spectrum(1, 0, 1, 0, 1, 0, 1);
+        SpectrumParts x = Make.spectrum(1, 0, 1, 0, 1, 0, 1);
         x.peaks(0);
         x.library();
         x.library();
